@@ -1251,8 +1251,9 @@ public final class StrawButts {
         final int[] bound = new int[MOST_ARCHERS];
         /** The wind of all shots; NONE: those that come round. */
         int gust = NONE;
+        /** Whether no further round can change anything but its number, nor what comes of it. */
+        boolean isStill = false;
         private Rule rule = null;
-        private int shots = 0;
         private final long[] words = new long[Rule.WORDS];
         private final long[] stack = new long[Rule.STACK];
 
@@ -1260,6 +1261,7 @@ public final class StrawButts {
             field.copyFrom(from);
             rule = by;
             gust = NONE;
+            isStill = false;
             Arrays.fill(bound, NONE);
         }
 
@@ -1274,23 +1276,15 @@ public final class StrawButts {
                     hits |= 1 << archer;
                 }
             }
-            shots = cells[Field.SHOT] - shotsAhead;
             cells[Field.ROUND]++;
+            boolean asks = gust != NONE || (rule != null && rule.asksRound);
+            isStill = cells[Field.SHOT] == shotsAhead && (!asks || field.sumOfArchers(Field.ARROWS) == 0);
             return hits;
         }
 
-        /** Whether all further rounds can change nothing but their number. */
-        boolean isStill() {
-            boolean asks = rule != null && rule.asksRound;
-            return shots == 0 && (!asks || field.sumOfArchers(Field.ARROWS) == 0);
-        }
-
         void playRounds(int n) {
-            for (int i = 0; i < n; i++) {
+            for (int i = 0; i < n && !isStill; i++) {
                 playRound();
-                if (isStill()) {
-                    break;
-                }
             }
         }
 
@@ -1352,7 +1346,7 @@ public final class StrawButts {
                 if (areWell(play.field, first, last)) {
                     return round;
                 }
-                if (play.isStill()) {
+                if (play.isStill) {
                     return NOTHING;
                 }
             }
@@ -1544,7 +1538,9 @@ public final class StrawButts {
         private static boolean fits(Play play, Notes notes) {
             int last = notes.lastRound();
             for (int round = 0; round <= last; round++) {
-                play.playRound();
+                if (!play.isStill) {
+                    play.playRound();
+                }
                 if (!notes.agree(round, play.came)) {
                     return false;
                 }
@@ -1562,16 +1558,10 @@ public final class StrawButts {
                 if (fits(play, now.notes)) {
                     firstFitting = fitting == 0 ? number : firstFitting;
                     play.startFrom(now.begin, rule);
-                    playThrough(play, n);
+                    play.playRounds(n + 1);
                     System.arraycopy(play.came, 0, came[fitting], 0, MOST_ARCHERS);
                     fitting++;
                 }
-            }
-        }
-
-        private static void playThrough(Play play, int n) {
-            for (int round = 0; round <= n; round++) {
-                play.playRound();
             }
         }
 
