@@ -1528,15 +1528,29 @@ public final class StrawButts {
             for (int number = least; number <= most; number++) {
                 play.startFrom(now.begin, rule);
                 play.field.cells[cell] = number;
-                if (fits(play, now.notes)) {
+                if (fits(play, now.notes, NONE, came[0])) {
                     bits |= 1 << number;
                 }
             }
             return bits;
         }
 
-        private static boolean fits(Play play, Notes notes) {
-            int last = notes.lastRound();
+        /** Finds the rules that fit, and what comes of the turns of the round n (NONE: of none) by each. */
+        void lookAhead(Play play, Moment now, Rule[] rules, int ruleCount, int n) {
+            fitting = 0;
+            firstFitting = NONE;
+            for (int number = NONE; number < ruleCount && fitting < came.length; number++) {
+                play.startFrom(now.begin, within(number, 0, rules.length - 1) ? rules[number] : null);
+                if (fits(play, now.notes, n, came[fitting])) {
+                    firstFitting = fitting == 0 ? number : firstFitting;
+                    fitting++;
+                }
+            }
+        }
+
+        /** Whether all notes are so; what comes of the turns of the round n goes into a row. */
+        private static boolean fits(Play play, Notes notes, int n, int[] row) {
+            int last = Math.max(n, notes.lastRound());
             for (int round = 0; round <= last; round++) {
                 if (!play.isStill) {
                     play.playRound();
@@ -1544,25 +1558,11 @@ public final class StrawButts {
                 if (!notes.agree(round, play.came)) {
                     return false;
                 }
-            }
-            return true;
-        }
-
-        /** Finds the rules that fit, and what comes of the turns of the round n (NONE: of none) by each. */
-        void lookAhead(Play play, Moment now, Rule[] rules, int ruleCount, int n) {
-            fitting = 0;
-            firstFitting = NONE;
-            for (int number = NONE; number < ruleCount; number++) {
-                Rule rule = within(number, 0, rules.length - 1) ? rules[number] : null;
-                play.startFrom(now.begin, rule);
-                if (fits(play, now.notes)) {
-                    firstFitting = fitting == 0 ? number : firstFitting;
-                    play.startFrom(now.begin, rule);
-                    play.playRounds(n + 1);
-                    System.arraycopy(play.came, 0, came[fitting], 0, MOST_ARCHERS);
-                    fitting++;
+                if (round == n) {
+                    System.arraycopy(play.came, 0, row, 0, MOST_ARCHERS);
                 }
             }
+            return true;
         }
 
         /** The archer whose turn parts the rules best. */

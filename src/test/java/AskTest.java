@@ -214,6 +214,9 @@ public final class AskTest {
         Check.green(both, two + ";ring 0 1;ring 4 1");
         Check.due("where it is, if none does", 8, both.set(0, 4, 0));
         Check.due("how much", 0, both.set(0, 4, 1));
+        Check.green(both, "green 3 4;wind 3;ring 0 3;ring 2 2;archer 1 1 1 4");
+        Check.due("not out of the green", 0, both.set(0, 4, 0));
+        Check.due("how much", 0, both.set(0, 4, 1));
         Check.due("n 0", -1, x.set(0, 0, 0));
         Check.due("n 41", -1, x.set(0, 41, 0));
         Check.due("what 2", -1, x.set(0, 1, 2));
@@ -261,10 +264,25 @@ public final class AskTest {
         restsAre(x, 0, 1, 21, -1, -1, -1);
         Check.due("what 3", -1, x.rests(0, 1, 1, 3));
         Check.due("what -1", -1, x.rests(0, 1, 1, -1));
+        restsByAnother();
         // whatever the rule says
         Check.rule(x, "aim 0");
         x.force(0);
         restsAre(x, 0, 1, 1, 2, 0, 1);
+    }
+
+    /** Archer 1 shoots only if an arrow sticks in a certain ring, and so moves archer 2 into the wind. */
+    private static void restsByAnother() {
+        StrawButts x = Check.on("green 9 4;wind 4;wind 4;wind 6;ring 1 1;ring 3 1;ring 8 1"
+            + ";archer 2 1 1 0;archer 2 1 1 0;archer 1 1 1 9");
+        Check.rule(x, "aim 1 if archer=1 and ring=0 and stuck>0");
+        Check.rule(x, "aim 1 if archer=1 and ring=2 and stuck>0");
+        x.force(0);
+        restsAre(x, 0, 2, 1, 3, 0, 0);
+        restsAre(x, 2, 0, 1, 3, 0, 0);
+        x.force(1);
+        restsAre(x, 0, 2, 1, 3, 0, 1);
+        restsAre(x, 2, 0, 1, 3, 0, 2);
     }
 
     private static void pence() {

@@ -10,6 +10,7 @@ public final class TextTest {
         rules();
         ruleFaults();
         limitsOfRules();
+        longTexts();
         inForce();
         Check.finish();
     }
@@ -127,6 +128,10 @@ public final class TextTest {
         greenFault("green 3 -1", 8, 0);
         greenFault("green 3 0;aim 1", 10, 0);
         greenFault("green 3 0;;", 10, 0);
+        greenFault("green 3 0;sing 0 1", 10, 0);
+        greenFault("green 3 0;rinz 0 1", 10, 0);
+        greenFault("green 3 0;archers 0 1", 10, 0);
+        greenFault("green 3 0;own 0", 10, 0);
         greenFault("green 3 0\u00ff", 9, 0);
     }
 
@@ -159,6 +164,11 @@ public final class TextTest {
         ruleFault("aim", 3, 0);
         ruleFault("aims 1", 0, 0);
         ruleFault("aimown", 0, 0);
+        ruleFault("aimz 1", 0, 0);
+        ruleFault("bim 1", 0, 0);
+        ruleFault("aim {", 4, 0);
+        ruleFault("aim 1 if 1=1 an 1=1", 13, 0);
+        ruleFault("aim 1 if 1<", 11, 0);
         ruleFault("aim x", 4, 0);
         ruleFault("aim not", 4, 0);
         ruleFault("aim if", 4, 0);
@@ -223,6 +233,17 @@ public final class TextTest {
         ruleFault("aim 1" + repeat("+1", 57) + " if own = 1", 5 + 114 + 10, 3);
         ruleFits("aim 1" + repeat("+1", 56) + " if own = 1");
         ruleFault("aim 1" + repeat("+1", 56) + " if own = 1;aim 2", 5 + 112 + 16, 3);
+    }
+
+    private static void longTexts() {
+        greenFault(repeat(";", 400), 0, 0);
+        greenFault(repeat(" ", 400), 400, 0);
+        greenFault(repeat(" ", 395) + "green", 400, 0);
+        ruleFault(repeat(" ", 397) + "aim", 400, 0);
+        ruleFault("aim 1 if " + repeat("not ", 9) + "1=1" + repeat("]", 352), 48, 0);
+        ruleFits("aim" + repeat(" ", 396) + "1");
+        String clause = ";aim 1 if 1=1 or 1=1";
+        ruleFault("aim 1" + repeat(clause, 7) + repeat(" ", 254) + "=", 399, 0);
     }
 
     private static void inForce() {
