@@ -81,8 +81,8 @@ public final class FaceTest {
     private static void source() throws Exception {
         String text = Files.readString(SOURCE).replaceAll("(?s)/\\*.*?\\*/", " ").replaceAll("//[^\n]*", " ");
         String[] forbidden = {"\\bthrow\\b", "\\btry\\b", "\\bcatch\\b", "\\bsynchronized\\b", "\\bassert\\b",
-            "->", "::", "\\bRandom\\b", "\\bThread\\b", "\\bSystem\\.(?!arraycopy)", "\\bpackage\\b", "\\bprotected\\b", "Exact\\(",
-            "\\bObject\\b", "\\bvar\\b"};
+            "->", "::", "\\bRandom\\b", "\\bThread\\b", "\\bSystem\\.(?!arraycopy)", "\\bpackage\\b", "\\bprotected\\b",
+            "Exact\\(", "\\bObject\\b", "\\bvar\\b"};
         for (String word : forbidden) {
             Matcher m = Pattern.compile(word).matcher(text);
             Check.due("the source has " + word, 0, m.find() ? 1 : 0);
