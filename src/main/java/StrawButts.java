@@ -79,12 +79,13 @@ public final class StrawButts {
             return NONE;
         }
         int fault = ruleReader.readFrom(tape);
+        // unlike that of a green, a text with a fault is gone, too
+        tape.length = 0;
         if (fault != 0) {
             return NOTHING - fault;
         }
         rules[ruleCount] = ruleReader.made();
         ruleCount++;
-        tape.length = 0;
         return ruleCount - 1;
     }
 

@@ -552,9 +552,10 @@ final class Oracle {
         if (rules.size() == 6) {
             return -1;
         }
+        String text = tape.toString();
+        tape.setLength(0);
         try {
-            rules.add(new Reader(tape.toString()).rule());
-            tape.setLength(0);
+            rules.add(new Reader(text).rule());
             return rules.size() - 1;
         } catch (Fault f) {
             return -2 - f.number;

@@ -140,12 +140,19 @@ public final class TextTest {
         Check.due("rule without a green", 0, Check.rule(x, "aim own"));
         Check.due("tape is empty then", 0, x.count(15));
         Check.due("a fault", Check.fault(3, 0), Check.rule(x, "aim"));
-        Check.due("tape stays", 3, x.count(15));
+        Check.due("tape is empty behind a fault, too", 0, x.count(15));
+        Check.due("what is fed then stands alone", 20, x.feed(0x61696d20, 0x31202b20, 0x20202020, 0x20202020, 0x20202020));
+        Check.due("a fault at the end", Check.fault(20, 0), x.rule());
+        Check.due("its tape is empty", 0, x.count(15));
+        Check.due("the empty tape", Check.fault(0, 0), x.rule());
+        Check.due("RULES behind faults", 1, x.count(5));
         for (int i = 1; i < 6; i++) {
             Check.due("rule " + i, i, Check.rule(x, "aim 1;aim own*3-wind/2%drift if not[place<=2 or stuck>1]and 1=1"));
         }
         Check.due("seventh rule", -1, Check.rule(x, "aim own"));
         Check.due("nothing happens", 7, x.count(15));
+        Check.due("seventh rule, with a fault", -1, Check.rule(x, "aim"));
+        Check.due("nothing happens then, too", 3, x.count(15));
         Check.due("RULES", 6, x.count(5));
     }
 
@@ -153,6 +160,7 @@ public final class TextTest {
         StrawButts x = new StrawButts();
         Check.due(text, Check.fault(place, kind), Check.rule(x, text));
         Check.due(text + ": no rule", 0, x.count(5));
+        Check.due(text + ": tape is empty", 0, x.count(15));
     }
 
     private static void ruleFits(String text) {
