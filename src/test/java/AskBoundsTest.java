@@ -26,6 +26,7 @@ public final class AskBoundsTest {
         givenOfForty();
         rests();
         restsByOneAnother();
+        restsOfTheWell();
         restsOfNone();
         restsOfTwenty();
         pence();
@@ -425,6 +426,17 @@ public final class AskBoundsTest {
         Check.due("one ROUND: nobody", -1, last.given(1, 0));
         Check.due("without ARCHERS", -1, Check.on("green 9 1;ring 4 3").given(40, 0));
         Check.due("without ARROWS", -1, Check.on("green 9 0;ring 4 3;archer 0 1 1 9").given(40, 0));
+        for (int who = 0; who < 5; who++) {
+            String ill = ";archer 0 1 1 0".repeat(who) + ";archer 0 1 1 9" + ";archer 0 1 1 0".repeat(4 - who);
+            Check.due("of five on a short green, " + who, who, Check.on("green 3 1;ring 1 3" + ill).given(3, 0));
+        }
+        StrawButts lone = by("green 9 1;wind 5;wind 4;ring 4 3;archer 0 1 1 0;archer 0 1 1 3",
+            "aim 1 if archer=1 and round=3");
+        lone.shoot(1, 0);
+        Check.due("one ARROW is lost, archer 1 has none", 3, lone.archer(1, 3));
+        Check.due("for 3 nobody", -1, lone.given(3, 0));
+        Check.due("for 4 archer 1", 1, lone.given(4, 0));
+        Check.due("for 4 archer 1", 3, lone.given(4, 1));
         Check.due("to the only one: nobody", -1, Check.on("green 9 5;ring 4 3;archer 0 1 1 9").given(40, 0));
     }
 
@@ -508,6 +520,21 @@ public final class AskBoundsTest {
         for (int what = 0; what < 3; what++) {
             Check.due("unlike RINGS, what " + what, due[what], y.rests(2, 1, 2, what));
         }
+    }
+
+    /** Terms: "each has how much less their ILL is then than now": who is ILL 0 has as much by any RING. */
+    private static void restsOfTheWell() {
+        // RING 1 sticks in RING 2, the others go into the HEDGE, and what sticks makes others shoot
+        StrawButts x = by("green 9 8;wind 8;ring 8 1;ring 1 1;ring 5 1" + ";archer 0 1 1 0".repeat(4)
+            + ";archer 2 1 1 0", "aim 1 if stuck>0 and ring=2");
+        for (int one = 0; one < 5; one++) {
+            for (int other = 0; other < 5; other++) {
+                Check.due("rests of " + one + " and " + other, one == other ? -1 : 9, x.rests(one, other, 8, 0));
+            }
+        }
+        StrawButts y = by("green 9 1;ring 1 1;ring 2 9;archer 0 1 1 0;archer 0 1 1 0;archer 0 1 1 0;archer 0 1 1 0"
+            + ";archer 1 1 1 9", "aim 1 if archer=4 and ring=1 and stuck>0");
+        Check.due("another's ILL is nothing to them", 4, y.rests(1, 0, 1, 0));
     }
 
     /** Promise 28: "(-2: there is none)". What 0 and 2 shoot by the rule moves the wind of 1 and 3. */
