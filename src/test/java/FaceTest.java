@@ -12,35 +12,56 @@ import java.util.regex.Pattern;
 /** The face as the document tells it, and what LANGUAGE.md forbids in the source and can be seen by words. */
 public final class FaceTest {
     private static final Path SOURCE = Path.of("src/main/java/StrawButts.java");
+    private static final Path DOCUMENT = Path.of("../shared/DOC.md");
     private static final String[] FACE = {
-        "feed/5", "end/1", "green/0", "rule/0", "force/1", "ring/2", "archer/2", "wind/1", "round/0", "shoot/2",
-        "pull/2", "breath/1", "teach/2", "undo/0", "ahead/3", "eased/1", "allEased/0", "down/2", "bestAim/2", "row/3",
-        "hold/1", "leastSkill/2", "set/3", "given/2", "skilled/1", "ails/1", "rests/4", "pence/2", "note/3", "ruled/1",
-        "look/2", "seed/1", "gusts/4", "count/1", "image/1", "back/1"};
+        "feed(int a, int b, int c, int d, int e)", "end(int n)", "green()", "rule()", "force(int rule)",
+        "ring(int ring, int what)", "archer(int archer, int what)", "wind(int shot)", "round()",
+        "shoot(int archer, int ring)", "pull(int ring, int archer)", "breath(int shots)",
+        "teach(int archer, int skill)", "undo()", "ahead(int archer, int n, int what)", "eased(int archer)",
+        "allEased()", "down(int archer, int ring)", "bestAim(int archer, int what)",
+        "row(int archer, int n, int what)", "hold(int archer)", "leastSkill(int archer, int n)",
+        "set(int ring, int n, int what)", "given(int n, int what)", "skilled(int archer)", "ails(int archer)",
+        "rests(int one, int other, int n, int what)", "pence(int much, int ring)",
+        "note(int n, int archer, int place)", "ruled(int what)", "look(int n, int what)", "seed(int x)",
+        "gusts(int m, int n, int p, int what)", "count(int what)", "image(int k)", "back(int k)"};
 
     public static void main(String[] args) throws Exception {
+        document();
         face();
         insides();
         source();
         Check.finish();
     }
 
+    /** The face written down here is the document's, where that lies at hand. */
+    private static void document() throws Exception {
+        if (!Files.exists(DOCUMENT)) {
+            System.out.println(DOCUMENT + " is not there");
+            return;
+        }
+        Set<String> told = new TreeSet<>();
+        Matcher method = Pattern.compile("public int (\\w+\\([^)]*\\));").matcher(Files.readString(DOCUMENT));
+        while (method.find()) {
+            told.add(method.group(1));
+        }
+        Check.due("the document's face: " + told, 1, told.equals(Set.of(FACE)) ? 1 : 0);
+    }
+
     private static void face() {
         Class<?> face = StrawButts.class;
         Check.due("NONE", -1, StrawButts.NONE);
         Check.due("public final", Modifier.PUBLIC | Modifier.FINAL, face.getModifiers());
-        Set<String> due = new TreeSet<>(Set.of(FACE));
-        Set<String> got = new TreeSet<>();
+        int methods = 0;
         for (Method m : face.getDeclaredMethods()) {
             if (!Modifier.isPrivate(m.getModifiers())) {
-                got.add(m.getName() + "/" + m.getParameterCount());
+                methods++;
                 Check.due(m + " is public, not static", Modifier.PUBLIC, m.getModifiers());
                 Check.due(m + " answers an int", 1, m.getReturnType() == int.class ? 1 : 0);
             } else {
                 Check.due(m + " has a name of its own", 1, namesNoFace(m.getName()) ? 1 : 0);
             }
         }
-        Check.due("methods: " + got, 1, due.equals(got) ? 1 : 0);
+        Check.due("methods", FACE.length, methods);
         for (Field f : face.getDeclaredFields()) {
             boolean isNone = f.getName().equals("NONE");
             Check.due(f + " is private", isNone ? 0 : 1, Modifier.isPrivate(f.getModifiers()) ? 1 : 0);
@@ -52,7 +73,7 @@ public final class FaceTest {
 
     private static boolean namesNoFace(String name) {
         for (String of : FACE) {
-            if (of.startsWith(name + "/")) {
+            if (of.startsWith(name + "(")) {
                 return false;
             }
         }
@@ -83,6 +104,9 @@ public final class FaceTest {
         String[] forbidden = {"\\bthrow\\b", "\\btry\\b", "\\bcatch\\b", "\\bsynchronized\\b", "\\bassert\\b",
             "->", "::", "\\bRandom\\b", "\\bThread\\b", "\\bSystem\\.(?!arraycopy)", "\\bpackage\\b", "\\bprotected\\b",
             "Exact\\(", "\\bObject\\b", "\\bvar\\b"};
+        for (String method : FACE) {
+            Check.due("the source has " + method, 1, text.contains("    public int " + method + " {\n") ? 1 : 0);
+        }
         for (String word : forbidden) {
             Matcher m = Pattern.compile(word).matcher(text);
             Check.due("the source has " + word, 0, m.find() ? 1 : 0);
